@@ -80,12 +80,12 @@ public final class LinkText {
             return -2;
         }
         everRead = true;
-        tape.cutTo(0);
         reader.begin(n);
         // One turn more than there may be lines, so that the line too many is found.
         for (int turn = 0; turn <= MOST_LINES && reader.findLine(); turn++) {
             reader.readLine();
         }
+        tape.cutTo(0);
         if (reader.fault != NO_FAULT) {
             lines.clear();
             return -1;
@@ -436,8 +436,8 @@ public final class LinkText {
             if (fault != NO_FAULT) {
                 return false;
             }
-            tokens.next(false);
-            for (int ends = 0; ends < MOST_BYTES && tokens.isLineEnd() && !tokens.isTextEnd(); ends++) {
+            // A text begins as if a line had ended ahead of it, so there is one end more than bytes.
+            for (int ends = 0; ends <= MOST_BYTES && tokens.isLineEnd() && !tokens.isTextEnd(); ends++) {
                 tokens.next(false);
             }
             return !tokens.isLineEnd();

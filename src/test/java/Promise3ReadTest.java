@@ -20,6 +20,8 @@ public final class Promise3ReadTest {
         check.due("blank lines", Check.read(new LinkText(), "\n\n  \n# show\n   # a #\n"), 0);
         check.due("lines among blank ones", Check.read(new LinkText(), "\n show # show\n\n#\ncount\n \n"), 2);
         check.due("a comment at the end", Check.read(new LinkText(), "show#"), 1);
+        check.due("4,000 bytes of blank lines", Check.read(new LinkText(), Check.times(4000, "\n")), 0);
+        check.due("a line behind 3,996 blank ones", Check.read(new LinkText(), Check.times(3996, "\n") + "show"), 1);
         check.due("every byte that may be in a comment", Check.read(new LinkText(), "show # !\"$%&'*~{|}`@/:;<>?\\"), 1);
     }
 

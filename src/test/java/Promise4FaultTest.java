@@ -66,6 +66,18 @@ public final class Promise4FaultTest {
         check.faulty("code +[1,2,3,10000]", 2, 13);
         check.faulty("code o 10000", 2, 7);
         check.faulty("push 1 over -10000", 2, 13);
+        check.faulty("push 1 over 10000", 2, 12);
+        check.faulty("push 10000 over 1", 2, 5);
+        check.faulty("push 1 10000 1", 2, 7);
+        check.faulty("twist 3 10000", 2, 8);
+        check.faulty("twist 3 + 10000", 2, 10);
+        check.faulty("code + 10000", 2, 7);
+        check.faulty("code +[10000,2,3,4]", 2, 7);
+        check.faulty("code +[1,10000,3,4]", 2, 9);
+        check.faulty("code +[1,2,3,4] 10000", 2, 16);
+        check.faulty("braid 3 1 10000", 2, 10);
+        check.faulty("undo 3 10000", 2, 7);
+        check.faulty("show\n\n10000", 2, 6);
         check.faulty("jones = A^10000", 2, 10);
         check.faulty("jones = A^-10000", 2, 11);
         check.oneLine("undo 9999", 3, 9999);
@@ -100,6 +112,12 @@ public final class Promise4FaultTest {
         check.faulty("over", 3, 0);
         check.faulty("o 3", 3, 0);
         check.faulty("mirror\nmirrormirror", 3, 7);
+        for (String letter : new String[] {"a", "z", "A", "Z"}) {
+            check.faulty("show" + letter, 3, 0);
+        }
+        for (String noLetter : new String[] {"`", "{", "@", "[", "0", "9", "/", ":"}) {
+            check.faulty("show" + noLetter, 4, 4);
+        }
     }
 
     private static void unexpectedTokens(Check check) {
