@@ -279,7 +279,8 @@ public final class LinkText {
             if (i < 0 || i >= sizeOf(k)) {
                 return 0;
             }
-            return numbers[firsts[k] + i];
+            int at = firsts[k] + i;
+            return at < numbers.length ? numbers[at] : 0;
         }
     }
 
@@ -364,13 +365,14 @@ public final class LinkText {
 
         private void weigh(boolean wide) {
             int digits = behind - place;
-            boolean sound = digits <= MOST_DIGITS && (digits == 1 || text[place] != '0');
+            boolean beginsWithZero = place < end && text[place] == '0';
             value = 0;
             // Cut off at the digits that a long can hold; a longer number is faulty anyway.
-            for (int i = 0; i < digits && i < MOST_DIGITS; i++) {
-                value = value * 10 + (text[place + i] - '0');
+            for (int at = place; at < end && at < behind && at < place + MOST_DIGITS; at++) {
+                value = value * 10 + (text[at] - '0');
             }
-            if (!sound || !wide && value > MOST_OF_A_NARROW_NUMBER) {
+            boolean misshapen = digits > MOST_DIGITS || beginsWithZero && digits > 1;
+            if (misshapen || !wide && value > MOST_OF_A_NARROW_NUMBER) {
                 sort = FAULTY;
                 fault = BAD_NUMBER;
             }
@@ -393,7 +395,7 @@ public final class LinkText {
         }
 
         boolean isWord(String word) {
-            if (sort != WORD || behind - place != word.length()) {
+            if (sort != WORD || behind > end || behind - place != word.length()) {
                 return false;
             }
             for (int i = 0; i < word.length(); i++) {
