@@ -14,6 +14,7 @@ public final class BoundaryLimitsTest {
         test.linesWithoutTokensAreNone();
         test.eachLineHasItsOwnLimits();
         test.asManyNumbersAsATextCanHave();
+        test.eachTextHasItsOwnLimits();
         test.check.end();
     }
 
@@ -185,6 +186,25 @@ public final class BoundaryLimitsTest {
             check.due("last coefficient of line " + k, x.number(k, size - 2), -1);
             check.due("last exponent of line " + k, x.number(k, size - 1), 1);
             check.due("number behind the last of line " + k, x.number(k, size), 0);
+        }
+    }
+
+    /** Texts one behind the other, sound and faulty ones, each as full as if it were the first. */
+    private void eachTextHasItsOwnLimits() {
+        Desk x = new Desk();
+        String lines = ("jones=A" + "-A".repeat(62) + "+7A^5\n").repeat(14);
+        for (int turn = 0; turn < 4; turn++) {
+            check.due("read of a full text", x.readText(lines), 14);
+            check.due("last coefficient", x.number(13, 126), 7);
+            check.due("last exponent", x.number(13, 127), 5);
+            check.due("place of the last line", x.line(13, 2), 13 * lines.length() / 14);
+        }
+        Desk y = new Desk();
+        for (int turn = 0; turn < 4; turn++) {
+            check.due("read of a full text", y.readText("show\n".repeat(64)), 64);
+            check.due("read of one line too many", y.readText("show\n".repeat(65)), -1);
+            check.due("its fault", y.fault(0), 5);
+            check.due("its place", y.fault(1), 320);
         }
     }
 

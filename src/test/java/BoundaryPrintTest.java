@@ -2,8 +2,9 @@
 public final class BoundaryPrintTest {
     /** A line of each kind as it is printed, the shortest and longer ones. */
     private static final String[] LINES = {"code\n", "code o 1\n", "code -[1, 20, 300, 4000] +[5, 6, 7, 8]\n",
-        "braid 3\n", "braid 3 1 -2 0\n", "undo 3\n", "slide 30\n", "twist 3 + over\n",
-        "twist 3 - under\n", "push -3 over 4\n", "push 3 under -4\n", "simplify\n", "mirror\n",
+        "braid 3\n", "braid 3 1 -1 0 -2\n", "undo 3\n", "slide 30\n", "twist 3 + over\n",
+        "twist 3 + under\n", "twist 0 - over\n", "twist 1 - under\n", "push -3 over 4\n",
+        "push 0 under -1\n", "push -1 under -4\n", "push 1 over 0\n", "simplify\n", "mirror\n",
         "reverse 300\n", "change 0\n", "smooth 9999\n", "number\n", "show\n", "count\n", "faces\n",
         "bracket\n", "bracket = -A^-3 - A^5 + 2\n", "jones\n", "jones = A^16 + 10000A\n",
         "alexander\n", "alexander = t^2 - 3t + 1\n"};
