@@ -176,9 +176,14 @@ public final class BoundaryPrintTest {
         check.due("read again", x.read(2 * line.length()), 2);
         check.due("number(1, 126)", x.number(1, 126), -999999999999999999L);
         check.due("number(1, 127)", x.number(1, 127), -9999);
-        LinkText y = new LinkText();
-        Check.read(y, line);
-        y.print(0);
-        check.due("all that is printed", Check.printed(y), line);
+        // No object has calls enough for all of its bytes, so some are asked for a part each.
+        for (int from = 0; from < line.length(); from += 400) {
+            Desk y = new Desk();
+            y.readText(line);
+            y.print(0);
+            for (int i = from; i < Math.min(from + 400, line.length()); i++) {
+                check.due("printed(" + i + ")", y.printed(i), line.charAt(i));
+            }
+        }
     }
 }
