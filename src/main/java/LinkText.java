@@ -43,9 +43,9 @@ public final class LinkText {
 
     /**
      * Stands for a 0 behind a -, which counts as 0 but is printed with the - that the line has.
-     * No number that is read comes near it, and like all that is behind a - it is below 0.
+     * It has more digits than a number that is read, and like all behind a - it is below 0.
      */
-    private static final long MINUS_ZERO = Long.MIN_VALUE;
+    private static final long MINUS_ZERO = -1000000000000000000L;
 
     private final ByteRow tape = new ByteRow();
     private final ByteRow paper = new ByteRow();
